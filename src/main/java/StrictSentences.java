@@ -276,6 +276,7 @@ public final class StrictSentences {
             case 1:
                 return countPlain();
             case 2:
+                // What is PLAIN is TRUE BY ROWS too.
                 return countTrueByRows() - countPlain();
             case 3:
                 return shelf.countUnlike();
@@ -319,7 +320,7 @@ public final class StrictSentences {
     }
 
     private boolean isPlain(Sentence sentence) {
-        // What is PLAIN is TRUE BY ROWS too, so the rows often spare the search for WORLDS.
+        // The rows are there already, and often spare the search for WORLDS.
         if (!sentence.isTrueByRows()) {
             return false;
         }
@@ -443,14 +444,6 @@ public final class StrictSentences {
             return size - 1;
         }
 
-        int addAtom(int which) {
-            return add(ATOM, which, NONE);
-        }
-
-        int addFalse() {
-            return add(FALSE, NONE, NONE);
-        }
-
         /** The number of a PART, which is added if it is not here yet. */
         int add(int ofKind, int a, int b) {
             for (int k = 0; k < size; k++) {
@@ -479,7 +472,7 @@ public final class StrictSentences {
                 case FALSE:
                     return true;
                 default:
-                    return hasPart(a) && hasPart(b);
+                    return a >= 0 && a < size && b >= 0 && b < size;
             }
         }
 
@@ -614,14 +607,14 @@ public final class StrictSentences {
                 return open(OPEN_NOT);
             }
             if (sign == 'F') {
-                finish(draft, draft.addFalse());
+                finish(draft, draft.add(FALSE, NONE, NONE));
                 return true;
             }
             int which = ATOM_SIGNS.indexOf((char) sign);
             if (which < 0) {
                 return false;
             }
-            finish(draft, draft.addAtom(which));
+            finish(draft, draft.add(ATOM, which, NONE));
             return true;
         }
 
@@ -663,7 +656,7 @@ public final class StrictSentences {
             wanting = false;
             while (depth > 0 && opened[depth - 1] == OPEN_NOT) {
                 depth--;
-                last = draft.add(IMPLIES, last, draft.addFalse());
+                last = draft.add(IMPLIES, last, draft.add(FALSE, NONE, NONE));
             }
         }
     }
@@ -781,7 +774,7 @@ public final class StrictSentences {
         private int deniedBy(int set, int missing) {
             int found = 0;
             for (int k = 0; k < sentence.size; k++) {
-                if (has(missing, k) && has(set, sentence.left[k])) {
+                if ((missing >>> k & set >>> sentence.left[k] & 1) != 0) {
                     found |= 1 << k;
                 }
             }
