@@ -511,21 +511,21 @@ public final class StrictSentences {
             for (int i = 0; i < MOST_PARTS; i++) {
                 placeOf[i] = NONE;
             }
-            addPart(whole, k, 0);
+            addPart(this, whole, k, 0);
         }
 
-        private int addPart(Sentence whole, int k, int depth) {
-            if (placeOf[k] != NONE || depth >= MOST_PARTS) {
-                return placeOf[k];
+        private static int addPart(Sentence made, Sentence whole, int k, int depth) {
+            if (made.placeOf[k] != NONE || depth >= MOST_PARTS) {
+                return made.placeOf[k];
             }
             int a = whole.left[k];
             int b = whole.right[k];
             if (whole.kind[k] >= AND) {
-                a = addPart(whole, a, depth + 1);
-                b = addPart(whole, b, depth + 1);
+                a = addPart(made, whole, a, depth + 1);
+                b = addPart(made, whole, b, depth + 1);
             }
-            placeOf[k] = add(whole.kind[k], a, b);
-            return placeOf[k];
+            made.placeOf[k] = made.add(whole.kind[k], a, b);
+            return made.placeOf[k];
         }
 
         boolean isTrueByRows() {

@@ -1,6 +1,5 @@
-/** Promises 11 to 14. */
+/** Promises 11 to 14, ordinary inputs; their boundary cases stand in FollowsBoundsTest. */
 public final class FollowsTest {
-    private static final int[] NO_SLOTS = {-1, 6, Integer.MIN_VALUE, Integer.MAX_VALUE};
     private static final String[] PLAIN = {
         "(p>p)", "-F", "(F>p)", "(p>(q>p))", "((p>(q>r))>((p>q)>(p>r)))", "((p&q)>p)", "((p&q)>q)",
         "(p>(q>(p&q)))", "(p>(p|q))", "(q>(p|q))", "((p>r)>((q>r)>((p|q)>r)))", "--(p|-p)",
@@ -25,11 +24,8 @@ public final class FollowsTest {
         for (String text : NOT_BY_ROWS) {
             told(text, 0, 0);
         }
-        oneSlotRefusals();
         follows();
-        followsRefuses();
         from();
-        fromRefuses();
         Check.end();
     }
 
@@ -38,16 +34,6 @@ public final class FollowsTest {
         Check.due("plain " + text, x.plain(0), plain);
         Check.due("rows " + text, x.rows(0), rows);
         Check.due("follows from itself " + text, x.count(10) == 11 ? 1 : x.follows(0, 0), 1);
-    }
-
-    private static void oneSlotRefusals() {
-        StrictSentences x = Check.holding("p");
-        for (int slot : NO_SLOTS) {
-            Check.due("plain " + slot, x.plain(slot), StrictSentences.UNKNOWN);
-            Check.due("rows " + slot, x.rows(slot), StrictSentences.UNKNOWN);
-        }
-        Check.due("plain of empty", x.plain(1), StrictSentences.STATE);
-        Check.due("rows of empty", x.rows(1), StrictSentences.STATE);
     }
 
     private static void follows() {
@@ -79,25 +65,6 @@ public final class FollowsTest {
         Check.due("no other sentences", x.count(3), a.equals(b) ? 1 : 2);
     }
 
-    private static void followsRefuses() {
-        StrictSentences x = Check.holding("---------p", "p", "--------p");
-        for (int slot : NO_SLOTS) {
-            Check.due("follows a " + slot, x.follows(slot, 5), StrictSentences.UNKNOWN);
-            Check.due("follows b " + slot, x.follows(5, slot), StrictSentences.UNKNOWN);
-        }
-        Check.due("a is empty, ahead of FULL", x.follows(5, 0), StrictSentences.STATE);
-        Check.due("b is empty", x.follows(0, 5), StrictSentences.STATE);
-        Check.due("12 parts", x.follows(0, 1), StrictSentences.FULL);
-        Check.due("12 parts, the other way", x.follows(1, 0), StrictSentences.FULL);
-        Check.due("12 parts, of itself", x.follows(0, 0), StrictSentences.FULL);
-        Check.due("11 parts", x.follows(1, 2), 1);
-        Check.due("11 parts, the other way", x.follows(2, 1), 0);
-        StrictSentences y = Check.holding("(((p>q)>r)>s)", "(((q>p)>s)>r)");
-        Check.due("11 parts of two", y.follows(0, 1), 0);
-        y.make(2, 0, 0, 0);
-        Check.due("12 parts of two", y.follows(2, 1), StrictSentences.FULL);
-    }
-
     /** PARTS: 0 p, 1 q, 2 (p|q), 3 F, 4 -p, 5 ((p|q)&-p), 6 the whole. */
     private static void from() {
         StrictSentences x = Check.holding("(((p|q)&-p)>q)");
@@ -122,26 +89,5 @@ public final class FollowsTest {
         StrictSentences z = Check.holding("(--p>p)");
         Check.due("from --p p", z.from(0, 8, 0), 0);
         Check.due("from the whole and --p p", z.from(0, 8 + 16, 0), 1);
-    }
-
-    private static void fromRefuses() {
-        StrictSentences x = Check.holding("(p&q)", "---------p");
-        for (int slot : NO_SLOTS) {
-            Check.due("from " + slot, x.from(slot, -1, -1), StrictSentences.UNKNOWN);
-        }
-        Check.due("STATE ahead of OUTSIDE", x.from(5, -1, -1), StrictSentences.STATE);
-        int[] outside = {-1, 3, 32, 35, Integer.MIN_VALUE, Integer.MAX_VALUE};
-        for (int k : outside) {
-            Check.due("no part " + k, x.from(0, 0, k), StrictSentences.OUTSIDE);
-        }
-        int[] sets = {-1, 8, 9, 1 << 31, 1 << 30, Integer.MAX_VALUE};
-        for (int set : sets) {
-            Check.due("no set " + set, x.from(0, set, 0), StrictSentences.OUTSIDE);
-        }
-        Check.due("greatest set", x.from(0, 7, 2), 1);
-        Check.due("greatest set of 11", x.from(1, 2047, 0), 1);
-        Check.due("one more of 11", x.from(1, 2048, 0), StrictSentences.OUTSIDE);
-        Check.due("part 10 of 11", x.from(1, 0, 10), 0);
-        Check.due("part 11 of 11", x.from(1, 0, 11), StrictSentences.OUTSIDE);
     }
 }

@@ -1,11 +1,8 @@
-/** Promises 17 to 19. */
+/** Promises 17 to 19, ordinary inputs; their boundary cases stand in ImagesBoundsTest. */
 public final class ImagesTest {
     public static void main(String[] args) {
         imageAndRestore();
-        onlySlotsAreKept();
-        imagesRefuse();
         counts();
-        countsRefuse();
         Check.end();
     }
 
@@ -36,40 +33,6 @@ public final class ImagesTest {
         Check.due("still both", x.count(5), 3);
     }
 
-    private static void onlySlotsAreKept() {
-        StrictSentences x = Check.holding("p");
-        Check.say(x, "(p");
-        Check.due("image", x.image(1), 1);
-        Check.due("only image 1", x.count(5), 2);
-        Check.due("a fault", x.read(0), StrictSentences.FAULT);
-        x.say('&');
-        x.restore(1);
-        Check.due("the text is not restored", x.count(4), 3);
-        Check.due("nor the fault", x.fault(), 2);
-        Check.due("an image of empty slots", new StrictSentences().image(0), 1);
-        StrictSentences y = new StrictSentences();
-        y.image(0);
-        Check.put(y, 3, "q");
-        Check.due("restore empty slots", y.restore(0), 1);
-        Check.due("all are empty", y.count(0), 0);
-    }
-
-    private static void imagesRefuse() {
-        StrictSentences x = Check.holding("p");
-        int[] outside = {-1, 2, 32, 33, Integer.MIN_VALUE, Integer.MAX_VALUE};
-        for (int k : outside) {
-            Check.due("image " + k, x.image(k), StrictSentences.OUTSIDE);
-            Check.due("restore " + k, x.restore(k), StrictSentences.OUTSIDE);
-        }
-        Check.due("none is kept", x.count(5), 0);
-        x.image(0);
-        Check.due("restore what was not kept", x.restore(1), StrictSentences.STATE);
-        Check.due("image 0 alone", x.count(5), 1);
-        x.drop(0);
-        Check.due("refused", x.restore(1), StrictSentences.STATE);
-        Check.due("refused changes nothing", x.count(0), 0);
-    }
-
     private static void counts() {
         StrictSentences x = Check.holding("(p>p)", "(p|-p)", "p", "(p|(p>F))", "--(p|-p)");
         Check.due("held", x.count(0), 5);
@@ -91,13 +54,5 @@ public final class ImagesTest {
         Check.due("unlike, the last is empty", y.count(3), 2);
         StrictSentences z = Check.holding("(p&q)", "(q&p)", "(p|q)", "(p>q)");
         Check.due("unlike pairs", z.count(3), 4);
-    }
-
-    private static void countsRefuse() {
-        StrictSentences x = Check.holding("p");
-        int[] outside = {-1, 6, 7, 8, 9, 16, 17, 100, Integer.MIN_VALUE, Integer.MIN_VALUE + 10, Integer.MAX_VALUE};
-        for (int what : outside) {
-            Check.due("count " + what, x.count(what), StrictSentences.OUTSIDE);
-        }
     }
 }

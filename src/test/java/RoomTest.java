@@ -2,7 +2,9 @@ import java.lang.management.ManagementFactory;
 
 /** All calls of a run live in one room: what a call makes is never given back, so it makes nothing. */
 public final class RoomTest {
-    private static final int CALLS = 500;
+    /** Of each of two rounds; what comes behind an object's 512th call is free. */
+    private static final int CALLS = 220;
+    private static final int MOST_BYTES_OF_AN_OBJECT = 1 << 16;
 
     public static void main(String[] args) {
         StrictSentences x = Check.holding("(((p&q)|(r>s))>((q&p)|(s>r)))", "--(p|-p)", "(((p>q)>p)>p)");
@@ -15,6 +17,11 @@ public final class RoomTest {
         long made = allocated(threads) - before;
         Check.holds("calls answered " + answers, answers != 0);
         Check.holds("calls made " + made + " bytes", made < CALLS);
+        before = allocated(threads);
+        StrictSentences y = new StrictSentences();
+        made = allocated(threads) - before;
+        Check.due("a new object", y.count(0), 0);
+        Check.holds("a new object made " + made + " bytes", made < MOST_BYTES_OF_AN_OBJECT);
         Check.end();
     }
 

@@ -1,7 +1,5 @@
-/** Promises 15 and 16. */
+/** Promises 15 and 16, ordinary inputs; their boundary cases stand in WorldsBoundsTest. */
 public final class WorldsTest {
-    private static final int[] NO_SLOTS = {-1, 6, Integer.MIN_VALUE, Integer.MAX_VALUE};
-
     public static void main(String[] args) {
         // Each row of a WORLD: the set, how many are ABOVE it, its HEIGHT.
         worlds("p", new int[][] {{0, 1, 1}, {1, 0, 0}});
@@ -32,7 +30,6 @@ public final class WorldsTest {
         counts("--(p|-p)", 3, 0, StrictSentences.NONE, 2, 1, 1);
         counts("((p&q)>p)", 4, 0, StrictSentences.NONE, 1, 2, 1);
         leastOfMany();
-        refusals();
         Check.end();
     }
 
@@ -43,12 +40,6 @@ public final class WorldsTest {
             for (int what = 0; what < 3; what++) {
                 Check.due("world " + i + " of " + text + ", " + what, x.world(0, i, what), want[i][what]);
             }
-        }
-        for (int what = 0; what < 3; what++) {
-            Check.due("no world more", x.world(0, want.length, what), StrictSentences.NONE);
-            Check.due("no world -1", x.world(0, -1, what), StrictSentences.NONE);
-            Check.due("no greatest world", x.world(0, Integer.MAX_VALUE, what), StrictSentences.NONE);
-            Check.due("no least world", x.world(0, Integer.MIN_VALUE, what), StrictSentences.NONE);
         }
     }
 
@@ -72,29 +63,5 @@ public final class WorldsTest {
         Check.due("worlds of 0 again", x.worlds(0, 0), 4);
         Check.due("over 0", Check.put(x, 0, "F"), 1);
         Check.due("worlds of the new one", x.worlds(0, 0), 1);
-    }
-
-    private static void refusals() {
-        StrictSentences x = Check.holding("p");
-        for (int slot : NO_SLOTS) {
-            Check.due("worlds of " + slot, x.worlds(slot, 9), StrictSentences.UNKNOWN);
-            Check.due("world of " + slot, x.world(slot, 0, 9), StrictSentences.UNKNOWN);
-        }
-        int[] outside = {-1, 6, 7, Integer.MIN_VALUE, Integer.MAX_VALUE};
-        for (int what : outside) {
-            Check.due("worlds what " + what, x.worlds(0, what), StrictSentences.OUTSIDE);
-            Check.due("worlds what ahead of STATE " + what, x.worlds(1, what), StrictSentences.OUTSIDE);
-            Check.due("world what " + what, x.world(0, 0, what), StrictSentences.OUTSIDE);
-            Check.due("world what ahead of NONE", x.world(0, -1, what), StrictSentences.OUTSIDE);
-            Check.due("world what ahead of STATE", x.world(1, 0, what), StrictSentences.OUTSIDE);
-        }
-        Check.due("world what 3", x.world(0, 0, 3), StrictSentences.OUTSIDE);
-        for (int what = 0; what <= 5; what++) {
-            Check.due("worlds of empty " + what, x.worlds(1, what), StrictSentences.STATE);
-        }
-        for (int what = 0; what <= 2; what++) {
-            Check.due("world of empty " + what, x.world(1, 0, what), StrictSentences.STATE);
-            Check.due("STATE, no NONE " + what, x.world(1, -1, what), StrictSentences.STATE);
-        }
     }
 }
