@@ -16,7 +16,8 @@ public final class FaceTest {
     private static final String SOURCE = "src/main/java/StrictSentences.java";
 
     public static void main(String[] args) throws IOException {
-        constants();
+        Check.promise(Document.TERMS, "UNKNOWN -1 (no such SLOT), OUTSIDE -2 (another number is not as told), "
+                + "FAULT -7 (the text is none), STATE -3", FaceTest::constants);
         face();
         insides();
         words();

@@ -4,18 +4,26 @@ public final class FollowsBoundsTest {
     private static final String TEN_PARTS = "--------p";
 
     public static void main(String[] args) {
-        Check.promise(11, "Whether the SENTENCE of a SLOT is PLAIN (1, 0)", FollowsBoundsTest::plainOrNot);
-        Check.promise(11, "UNKNOWN", FollowsBoundsTest::plainUnknown);
-        Check.promise(11, "STATE", FollowsBoundsTest::plainOfEmpty);
-        Check.promise(12, "Whether the SENTENCE of a SLOT is TRUE BY ROWS (1, 0)", FollowsBoundsTest::rowsOrNot);
-        Check.promise(12, "UNKNOWN", FollowsBoundsTest::rowsUnknown);
-        Check.promise(12, "STATE", FollowsBoundsTest::rowsOfEmpty);
-        follows();
-        from();
+        promise11();
+        promise12();
+        promise13();
+        promise14();
         Check.end();
     }
 
-    private static void follows() {
+    private static void promise11() {
+        Check.promise(11, "Whether the SENTENCE of a SLOT is PLAIN (1, 0)", FollowsBoundsTest::plainOrNot);
+        Check.promise(11, "UNKNOWN", FollowsBoundsTest::plainUnknown);
+        Check.promise(11, "STATE", FollowsBoundsTest::plainOfEmpty);
+    }
+
+    private static void promise12() {
+        Check.promise(12, "Whether the SENTENCE of a SLOT is TRUE BY ROWS (1, 0)", FollowsBoundsTest::rowsOrNot);
+        Check.promise(12, "UNKNOWN", FollowsBoundsTest::rowsUnknown);
+        Check.promise(12, "STATE", FollowsBoundsTest::rowsOfEmpty);
+    }
+
+    private static void promise13() {
         Check.promise(13, "Whether the SENTENCE of SLOT b FOLLOWS from that of SLOT a alone (1, 0)",
                 FollowsBoundsTest::oneFromTheOther);
         Check.promise(13, "UNKNOWN: both", FollowsBoundsTest::followsUnknown);
@@ -23,7 +31,7 @@ public final class FollowsBoundsTest {
         Check.promise(13, "FULL: ( A > B ) of both would be LARGE", FollowsBoundsTest::followsFull);
     }
 
-    private static void from() {
+    private static void promise14() {
         Check.promise(14, "Whether PART k of the SENTENCE of a SLOT FOLLOWS from a set of PARTS of it (1, 0)",
                 FollowsBoundsTest::fromLeastAndGreatestSets);
         Check.promise(14, "UNKNOWN", FollowsBoundsTest::fromUnknown);

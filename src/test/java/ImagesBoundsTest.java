@@ -4,26 +4,26 @@ public final class ImagesBoundsTest {
     private static final int[] NO_IMAGES = {-1, 2, 3, 32, 33, 256, Check.LEAST, Check.LEAST + 1, Check.GREATEST};
 
     public static void main(String[] args) {
-        image();
-        restore();
-        count();
+        promise17();
+        promise18();
+        promise19();
         Check.end();
     }
 
-    private static void image() {
+    private static void promise17() {
         Check.promise(17, "All SLOTS are kept in an IMAGE (0, 1)", ImagesBoundsTest::allSlotsAreKept);
         Check.promise(17, "in place of what was kept there", ImagesBoundsTest::inPlaceOfIt);
         Check.promise(17, "OUTSIDE", ImagesBoundsTest::imageOutside);
     }
 
-    private static void restore() {
+    private static void promise18() {
         Check.promise(18, "They hold what they held when that was kept", ImagesBoundsTest::asWhenKept);
         Check.promise(18, "the IMAGE stays", ImagesBoundsTest::theImageStays);
         Check.promise(18, "OUTSIDE", ImagesBoundsTest::restoreOutside);
         Check.promise(18, "STATE: nothing was kept in it", ImagesBoundsTest::nothingKept);
     }
 
-    private static void count() {
+    private static void promise19() {
         Check.promise(19, "How many SLOTS are not empty (0)", ImagesBoundsTest::countHeld);
         Check.promise(19, "how many hold a PLAIN SENTENCE (1)", ImagesBoundsTest::countPlain);
         Check.promise(19, "one that is TRUE BY ROWS and not PLAIN (2)", ImagesBoundsTest::countByRows);

@@ -5,16 +5,17 @@ public final class SlotBoundsTest {
     private static final String ELEVEN_PARTS = "(((p&q)|(r>s))>((q&p)|(s>r)))";
 
     public static void main(String[] args) {
-        make();
-        part();
-        sign();
-        told();
-        drop();
+        promise6();
+        promise7();
+        promise8();
+        promise9();
+        promise10();
         Check.end();
     }
 
-    private static void make() {
+    private static void promise6() {
         Check.promise(6, "made of those of two SLOTS (or one), a first", SlotBoundsTest::madeOfTwoOrOne);
+        Check.promise(6, "a first", SlotBoundsTest::partsOfBComeBehind);
         Check.promise(6, "way 0 &, 1 |, 2 >", SlotBoundsTest::madeEachWay);
         Check.promise(6, "how many PARTS it has", SlotBoundsTest::makeTellsParts);
         Check.promise(6, "UNKNOWN: all three", SlotBoundsTest::makeUnknown);
@@ -23,7 +24,7 @@ public final class SlotBoundsTest {
         Check.promise(6, "FULL: it would be LARGE", SlotBoundsTest::makeFull);
     }
 
-    private static void part() {
+    private static void promise7() {
         Check.promise(7, "A SLOT holds PART k of the SENTENCE of another one", SlotBoundsTest::eachPart);
         Check.promise(7, "(or the same)", SlotBoundsTest::partOntoTheSame);
         Check.promise(7, "how many PARTS that has", SlotBoundsTest::partTellsParts);
@@ -32,7 +33,7 @@ public final class SlotBoundsTest {
         Check.promise(7, "OUTSIDE: there is no such PART", SlotBoundsTest::noSuchPart);
     }
 
-    private static void sign() {
+    private static void promise8() {
         Check.promise(8, "The k-th sign, from 0 on", SlotBoundsTest::signsOfTheLongest);
         Check.promise(8, "written out with ( A > F ) for - A", SlotBoundsTest::signsOfNot);
         Check.promise(8, "k = -1: how many signs", SlotBoundsTest::howManySigns);
@@ -42,7 +43,7 @@ public final class SlotBoundsTest {
         Check.promise(8, "STATE", SlotBoundsTest::signOfEmpty);
     }
 
-    private static void told() {
+    private static void promise9() {
         Check.promise(9, "0 an ATOM, 1 F, 2 &, 3 |, 4 > (what = 0)", SlotBoundsTest::toldKinds);
         Check.promise(9, "the numbers of A (1) and of B (2)", SlotBoundsTest::toldNumbers);
         Check.promise(9, "of an ATOM which it is, 0 p to 3 s (1)", SlotBoundsTest::toldAtoms);
@@ -53,7 +54,7 @@ public final class SlotBoundsTest {
         Check.promise(9, "or what is not 0 to 2 (ahead of NONE)", SlotBoundsTest::toldNoSuchWhat);
     }
 
-    private static void drop() {
+    private static void promise10() {
         Check.promise(10, "A SLOT is empty", SlotBoundsTest::droppedIsEmpty);
         Check.promise(10, "whether it was not (1, 0)", SlotBoundsTest::dropTellsWhetherItHeld);
         Check.promise(10, "UNKNOWN", SlotBoundsTest::dropUnknown);
@@ -76,6 +77,18 @@ public final class SlotBoundsTest {
         Check.due("onto both", Check.written(x, 1), "(((p&q)&q)|((p&q)&q))");
         x.make(5, 3, 2, 0);
         Check.due("into an empty one", Check.written(x, 5), "((p>p)&(q>p))");
+    }
+
+    /** The PARTS of B come to stand behind those of A, under other numbers than they had. */
+    private static void partsOfBComeBehind() {
+        String[] others = {"(p&q)", "(p|q)", "(p>q)", "-p", "((p&q)|(p>q))", "((q|p)&(q>p))"};
+        for (String other : others) {
+            StrictSentences x = Check.holding("r", other);
+            x.make(2, 0, 1, 2);
+            Check.due("made", Check.written(x, 2), "(r>" + Check.written(x, 1) + ")");
+            Check.put(x, 3, "(r>" + other + ")");
+            Check.due("like the one that is read", x.count(3), 3);
+        }
     }
 
     private static void madeEachWay() {

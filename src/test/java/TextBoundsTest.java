@@ -5,33 +5,33 @@ public final class TextBoundsTest {
     private static final String TWELVE_PARTS = "----------p";
 
     public static void main(String[] args) {
-        aNewObject();
-        say();
-        wipe();
-        read();
-        fault();
+        promise1();
+        promise2();
+        promise3();
+        promise4();
+        promise5();
         Check.end();
     }
 
-    private static void aNewObject() {
+    private static void promise1() {
         Check.promise(1, "All SLOTS and THE TEXT are empty", TextBoundsTest::newSlotsAreEmpty);
         Check.promise(1, "THE TEXT are empty", TextBoundsTest::newTextIsEmpty);
         Check.promise(1, "no FAULT", TextBoundsTest::newFaultIsNone);
         Check.promise(1, "no IMAGE", TextBoundsTest::newImagesAreNone);
     }
 
-    private static void say() {
+    private static void promise2() {
         Check.promise(2, "A sign more: how many THE TEXT has", TextBoundsTest::signsAreCounted);
         Check.promise(2, "OUTSIDE: it is not 33 to 126", TextBoundsTest::signsOutside);
         Check.promise(2, "FULL", TextBoundsTest::textIsFull);
     }
 
-    private static void wipe() {
+    private static void promise3() {
         Check.promise(3, "how many signs it had", TextBoundsTest::wipeTellsSigns);
         Check.promise(3, "THE TEXT is empty", TextBoundsTest::wipedTextIsEmpty);
     }
 
-    private static void read() {
+    private static void promise4() {
         Check.promise(4, "A SLOT holds the SENTENCE that THE TEXT is", TextBoundsTest::readIntoEachSlot);
         Check.promise(4, "THE TEXT is empty then", TextBoundsTest::readEmptiesTheText);
         Check.promise(4, "how many PARTS it has", TextBoundsTest::readTellsParts);
@@ -40,7 +40,7 @@ public final class TextBoundsTest {
         Check.promise(4, "FULL: it is LARGE", TextBoundsTest::readFull);
     }
 
-    private static void fault() {
+    private static void promise5() {
         Check.promise(5, "The place of the FAULT that a read() told last", TextBoundsTest::faultToldLast);
         Check.promise(5, "one that tells none", TextBoundsTest::readWithoutFaultLeavesIt);
         Check.promise(5, "or FULL, leaves it", TextBoundsTest::fullReadLeavesIt);

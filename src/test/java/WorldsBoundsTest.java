@@ -7,12 +7,13 @@ public final class WorldsBoundsTest {
     private static final String HIGHEST = "(((s>r)>(q>p))>((r>p)>(q>s)))";
 
     public static void main(String[] args) {
-        worlds();
-        world();
+        promise15();
+        promise16();
         Check.end();
     }
 
-    private static void worlds() {
+    private static void promise15() {
+        Check.promise(15, "Of the SENTENCE of a SLOT", WorldsBoundsTest::askedInTurn);
         Check.promise(15, "how many WORLDS there are (what = 0)", WorldsBoundsTest::howMany);
         Check.promise(15, "how many REFUTE it (1)", WorldsBoundsTest::howManyRefute);
         Check.promise(15, "the least as a number of these (2; NONE)", WorldsBoundsTest::leastThatRefutes);
@@ -24,7 +25,7 @@ public final class WorldsBoundsTest {
         Check.promise(15, "STATE", WorldsBoundsTest::worldsOfEmpty);
     }
 
-    private static void world() {
+    private static void promise16() {
         Check.promise(16, "Of the i-th WORLD, rising as numbers, from 0 on", WorldsBoundsTest::rising);
         Check.promise(16, "the set of its PARTS (what = 0)", WorldsBoundsTest::sets);
         Check.promise(16, "how many WORLDS are ABOVE it (1)", WorldsBoundsTest::above);
@@ -37,6 +38,20 @@ public final class WorldsBoundsTest {
 
     private static void worlds(String text, int what, int due) {
         Check.due("worlds of " + text + ", " + what, Check.holding(text).worlds(0, what), due);
+    }
+
+    /** Nothing of the worlds of one SENTENCE may be left when another is asked for. */
+    private static void askedInTurn() {
+        String[] texts = {HIGHEST, MOST_WORLDS, "-F", "(q>(-r&(-s&-p)))", "p", "(p>q)"};
+        StrictSentences x = Check.holding(texts);
+        for (int step = 1; step <= 5; step += 4) {
+            for (int turn = 0; turn < 6; turn++) {
+                int slot = turn * step % 6;
+                for (int what = 5; what >= 0; what--) {
+                    worlds(texts[slot], what, x.worlds(slot, what));
+                }
+            }
+        }
     }
 
     private static void howMany() {
