@@ -2,6 +2,8 @@ import java.io.IOException;
 import java.io.UncheckedIOException;
 import java.nio.file.Files;
 import java.nio.file.Path;
+import java.util.ArrayList;
+import java.util.List;
 
 /** The words of ../shared/DOC.md, so that a test can name the sentence it stands for. */
 final class Document {
@@ -16,6 +18,20 @@ final class Document {
 
     static boolean says(int promise, String sentence) {
         return section(promise).contains(sentence);
+    }
+
+    /** The public face as the document writes it, a line each, without its braces. */
+    static List<String> face() {
+        String begin = "```java\n";
+        int from = words().indexOf(begin, words().indexOf("## The public face")) + begin.length();
+        List<String> lines = new ArrayList<>();
+        for (String line : words().substring(from, words().indexOf("```", from)).split("\n")) {
+            String inside = line.replace("{", "").replace("}", "").trim();
+            if (!inside.isEmpty()) {
+                lines.add(inside);
+            }
+        }
+        return lines;
     }
 
     private static String section(int promise) {
